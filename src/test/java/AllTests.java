@@ -1,0 +1,15 @@
+/** Runs every test of the project; the argument is the path of SpringFarms.java. */
+public final class AllTests {
+    public static void main(String[] args) {
+        FarmsTests.run();
+        HoursTests.run();
+        MuchTests.run();
+        HeardTests.run();
+        if (!Check.close()) {
+            System.exit(1);
+        }
+    }
+
+    private AllTests() {
+    }
+}
