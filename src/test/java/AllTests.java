@@ -5,6 +5,10 @@ public final class AllTests {
         HoursTests.run();
         MuchTests.run();
         HeardTests.run();
+        RefusalTests.run();
+        RandomTests.run();
+        RoomTests.run();
+        LanguageTests.run(args.length > 0 ? args[0] : "src/main/java/SpringFarms.java");
         if (!Check.close()) {
             System.exit(1);
         }
