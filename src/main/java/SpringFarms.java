@@ -352,8 +352,7 @@ public final class SpringFarms {
 
     /** What a new farm takes at a place; 0 also if another farm (asIs is told of) takes less by it. */
     private int takenIfBoredAt(int place, int height, int width) {
-        trial.copy(now);
-        trial.open(place, height, width);
+        trial.copyWithNew(now, place, height, width);
         other.flow(trial, PLAIN);
         for (int f = 0; f < now.count; f++) {
             int moved = f < place ? f : f + 1;
@@ -500,10 +499,12 @@ public final class SpringFarms {
         if (!within(n, IMAGES - 1)) {
             return OUTSIDE;
         }
-        if (images[n] == null) {
-            images[n] = new Row();
+        Row image = images[n];
+        if (image == null) {
+            image = new Row();
+            images[n] = image;
         }
-        images[n].copy(now);
+        image.copy(now);
         return 1;
     }
 
@@ -751,14 +752,15 @@ public final class SpringFarms {
             sights++;
         }
 
-        /** Puts a new farm at a place; there are fewer than nine. */
-        void open(int place, int height, int width) {
+        /** As another row of fewer than nine farms, with a new one at a place. */
+        void copyWithNew(Row from, int place, int height, int width) {
+            copy(from);
             int at = place * FACTS;
-            System.arraycopy(facts, at, facts, at + FACTS, (count - place) * FACTS);
+            System.arraycopy(from.facts, at, facts, at + FACTS, (from.count - place) * FACTS);
             System.arraycopy(FACT_AT_FIRST, 0, facts, at, FACTS);
             put(place, HEIGHT, height);
             put(place, WIDTH, width);
-            count++;
+            count = from.count + 1;
         }
 
         int levelAtSpring(int kind) {

@@ -88,6 +88,8 @@ final class FarmsTests {
             Check.due("farm(0, " + what + ", too much)", x.farm(0, what, most[what] + 1), -2);
             Check.due("farm(0, " + what + ", -1)", x.farm(0, what, -1), -2);
         }
+        Check.due("farm(0, 7, 0)", x.farm(0, 7, 0), -2);
+        Check.due("farm(0, 8, 0)", x.farm(0, 8, 0), -2);
         for (int extreme : Told.EXTREMES) {
             if (extreme < 0 || extreme > 2) {
                 Check.due("farm(" + extreme + ", 0, 0)", x.farm(extreme, 0, 0), -1);

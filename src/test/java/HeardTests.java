@@ -152,6 +152,13 @@ final class HeardTests {
         // The third log's level is 59 less the leak: it takes 9 less the leak, thrice each.
         Check.due("listen(0)", y.listen(0), 2);
         Check.due("listen(1)", y.listen(1), 3);
+        SpringFarms z = new SpringFarms();
+        z.set(0, 0);
+        Check.due("listen(0) of nine", z.listen(0), 0);
+        Check.due("listen(1) of nine", z.listen(1), 81);
+        z.farms(1);
+        Check.due("listen(1) of one", z.listen(1), 9);
+        Check.due("listen(1) again", z.listen(1), 9);
     }
 
     private static void rests() {
@@ -168,6 +175,8 @@ final class HeardTests {
         Check.due("rests(3, 0)", x.rests(3, 0), 42);
         Check.due("rests(10, 0)", x.rests(10, 0), 40);
         Check.due("rests(12, 0)", x.rests(12, 0), 40);
+        x.set(0, 1);
+        Check.due("rests(7, 0)", x.rests(7, 0), 100);
         x.set(0, 2);
         Check.due("rests(1, 0)", x.rests(1, 0), 2);
         Check.due("rests(8, 0)", x.rests(8, 0), 0);
@@ -272,6 +281,10 @@ final class HeardTests {
         SpringFarms y = Told.farms(2);
         y.farm(1, 1, 0);
         year(y, 0, 2, 2, 38, 2);
+        SpringFarms z = new SpringFarms();
+        year(z, 0, 2, 18, 22, 0);
+        z.farms(2);
+        year(z, 0, 2, 4, 36, 0);
     }
 
     private static void images() {

@@ -7,6 +7,7 @@ final class MuchTests {
         Check.test("promise 18: narrow refuses", MuchTests::narrowRefuses);
         Check.test("promise 19: highest", MuchTests::highest);
         Check.test("promise 20: bored", MuchTests::bored);
+        Check.test("promise 20: bored among others", MuchTests::boredAmongOthers);
         Check.test("promise 20: bored refuses", MuchTests::boredRefuses);
         Check.test("promise 21: fair", MuchTests::fair);
         Check.test("promise 22: dry", MuchTests::dry);
@@ -31,6 +32,7 @@ final class MuchTests {
         x.farm(1, 2, 1);
         x.farm(1, 3, 1);
         Check.due("hours() are plain", x.hours(), 1);
+        Check.due("hours() by one pail an hour", Told.farms(1).hours(), 5);
     }
 
     private static void spring() {
@@ -59,6 +61,16 @@ final class MuchTests {
         y.farm(0, 2, 9);
         y.farm(0, 5, 9);
         Check.due("spring(1)", y.spring(1), 68);
+        SpringFarms z = new SpringFarms();
+        int[] heights = {0, 0, 0, 0, 0, 50, 0, 0, 0};
+        for (int f = 0; f < 9; f++) {
+            Told.hole(z, f, heights[f], 9);
+            z.farm(f, 2, f == 5 ? 4 : 0);
+        }
+        Check.due("spring(1), the most there is", z.spring(1), 99);
+        z.farm(5, 2, 5);
+        Check.due("spring(1), it would want more", z.spring(1), -6);
+        Check.due("spring(2)", z.spring(2), 98);
     }
 
     private static void narrow() {
@@ -166,6 +178,17 @@ final class MuchTests {
         bored(x, 3, 9, 1, 8);
     }
 
+    private static void boredAmongOthers() {
+        SpringFarms x = Told.farms(1);
+        x.set(0, 10);
+        Told.hole(x, 0, 0, 9);
+        bored(x, 0, 9, 1, 1);
+        SpringFarms y = Told.farms(2);
+        y.set(0, 10);
+        Told.hole(y, 0, 0, 3);
+        bored(y, 0, 9, 2, 6);
+    }
+
     private static void boredRefuses() {
         SpringFarms x = Told.farms(8);
         x.set(0, 99);
@@ -196,6 +219,9 @@ final class MuchTests {
         Check.due("fair(), nothing comes", x.fair(), 0);
         x.farm(2, 4, 1);
         Check.due("fair(), all plugged", x.fair(), 9);
+        SpringFarms one = Told.farms(1);
+        one.farm(0, 0, 15);
+        Check.due("fair() of one", one.fair(), 5);
         SpringFarms y = new SpringFarms();
         Check.due("fair() of nine", y.fair(), 2);
         y.farm(4, 5, 2);
@@ -224,6 +250,13 @@ final class MuchTests {
         x.farm(0, 4, 1);
         x.farm(2, 4, 1);
         Check.due("dry(99), all plugged", x.dry(99), -6);
+        SpringFarms y = new SpringFarms();
+        y.set(0, 1);
+        Check.due("dry(99), nothing comes", y.dry(99), 0);
+        SpringFarms z = new SpringFarms();
+        z.takes(0, 0);
+        z.farms(2);
+        Check.due("dry(0), farms that were are nothing", z.dry(0), -6);
     }
 
     private MuchTests() {
