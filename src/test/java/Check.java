@@ -9,6 +9,7 @@ final class Check {
     private static boolean good = true;
     private static final int MOST_TOLD = 20;
     private static final List<String> told = new ArrayList<>();
+    private static final List<String> titles = new ArrayList<>();
 
     interface Test {
         void run() throws Exception;
@@ -16,6 +17,7 @@ final class Check {
 
     static void test(String name, Test test) {
         title = name;
+        titles.add(name);
         good = true;
         told.clear();
         try {
@@ -49,6 +51,11 @@ final class Check {
             told.add(line);
             System.out.println(title + ": " + line);
         }
+    }
+
+    /** How many tests there are whose name begins so. */
+    static long count(String beginning) {
+        return titles.stream().filter(name -> name.startsWith(beginning)).count();
     }
 
     /** Prints the closing line: whether all passed. */
