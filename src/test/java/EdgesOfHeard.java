@@ -131,6 +131,12 @@ final class EdgesOfHeard {
         edge(28, "0 ahead of other digits", """
             farms(3)  farm(0, 4, 1)  rests(7, 0) = 44  rests(3, 0) = 4  rests(5, 0) = 4  farm(1, 4, 1)  rests(7, 0) = 4
             farm(2, 4, 1)  rests(7, 0) = 0  rests(7, -1) = 1""");
+        edge(28, "digits, those behind the first 0", """
+            farms(3)  set(0, 0)  rests(7, 0) = 0  set(0, 1)  rests(7, 0) = 100  set(0, 2)  rests(7, 0) = 200
+            set(0, 3)  rests(7, 0) = 300  set(0, 4)  rests(7, 0) = 400  set(0, 5)  rests(7, 0) = 410""");
+        edge(28, "a plain hour: NORTH is nothing to it", "farms(1)  farm(0, 3, 1)  rests(1, 0) = 4");
+        edge(28, "as many FARMS as there are now, whatever was asked before", """
+            farms(1)  takesIf(0, 0)  farms(9)  rests(256, 0) = 4  farms(2)  rests(4, 0) = OUTSIDE""");
         edge(28, "FARMS beside the set keep theirs", """
             farms(4)  set(0, 12)  farm(0, 1, 9)  rests(2, 0) = 3  rests(6, 0) = 30  rests(1, 0) = 4  rests(3, 0) = 44
             farm(0, 1, 0)  rests(2, 0) = 4  farm(1, 1, 9)  rests(4, 0) = 3  told(11) = 0  told(21) = 9""");

@@ -49,6 +49,8 @@ final class EdgesOfHours {
         edge(8, "STATE, of hours alone: some PART can not be", """
             pad "A<"  judge(2) = STATE  judge(0) = 0  judge(1) = 1  pad "..A<"  judge(2) = STATE  judge(0) = 2
             pad "A>"  judge(2) = 0""");
+        edge(8, "NO: as many FARMS as there are now, whatever was asked before", """
+            takesIf(8, 8)  farms(2)  pad "C"  judge(0) = NO  takesIf(1, 1)  farms(9)  judge(0) = NONE""");
         edge(8, "OUTSIDE ahead of NO, NO ahead of STATE", """
             pad "A<!"  judge(-1|3) = OUTSIDE  judge(2) = NO  pad "A<"  judge(-1|3) = OUTSIDE""");
     }
@@ -161,6 +163,7 @@ final class EdgesOfHours {
             farms(2)  farm(0, 1, 9)  takesIf(0, 1) = 9  farm(1, 4, 1)  takesIf(0, 1) = 9""");
         edge(14, "a farm and itself", """
             farms(1)  takesIf(0, 0) = 0  farm(0, 4, 1)  takesIf(0, 0) = 1  told(14) = 1""");
+        edge(14, "a plain hour: NORTH is nothing to it", "farms(2)  farm(0|1, 3, 1)  takesIf(1, 0) = 1  takesIf(0, 1) = 1");
         edge(14, "one PLUGGED stays so, if another were", "farms(2)  farm(1, 4, 1)  takesIf(1, 0) = 0");
         edge(14, "the log of one that were PLUGGED LEAKS still", """
             farms(2)  set(0, 9)  farm(0, 5, 9)  farm(1, 1, 9)  takesIf(1, 0) = 0  farm(0, 5, 8)  takesIf(1, 0) = 1
@@ -177,6 +180,8 @@ final class EdgesOfHours {
         edge(15, "more by one pail, or as much", """
             farms(2)  farm(1, 1, 5)  set(0, 6)  takes(1, 0) = 5  robbed(0) = 0  set(0, 5)  takes(1, 0) = 4
             robbed(0) = 2""");
+        edge(15, "a plain hour: NORTH is nothing to it", """
+            farms(2)  farm(0|1, 3, 1)  robbed(0) = 0  set(0, 1)  robbed(0) = 2""");
         edge(15, "as bits, up to the ninth farm", """
             set(0, 8)  robbed(0) = 256  set(0, 9)  robbed(0) = 0
             set(0, 9)  farm(0, 1, 9)  robbed(0) = 510  farms(8)  farm(0, 1, 9)  robbed(0) = 254""");

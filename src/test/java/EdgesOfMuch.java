@@ -46,6 +46,7 @@ final class EdgesOfMuch {
         edge(17, "PAILS that they have now, too", """
             farms(1)  farm(0, 1, 9)  farm(0, 6, 4)  spring(1) = 1  farm(0, 6, 5)  spring(1) = 0  farm(0, 6, 999)
             spring(1) = 0  farm(0, 6, 3)  spring(1) = 2  spring(2) = 1""");
+        edge(17, "plain hours: NORTH is nothing to it", "farms(1)  farm(0, 3, 1)  spring(5) = 1  spring(4) = NONE");
         edge(17, "whatever the SPRING gives now", """
             farms(1)  set(0, 99)  spring(5) = 1  set(0, 0)  spring(5) = 1  told(2) = 0""");
         edge(17, "OUTSIDE also if there is none", "farm(0, 4, 1)  spring(25|0) = OUTSIDE  spring(24) = NONE");
@@ -79,6 +80,7 @@ final class EdgesOfMuch {
         edge(18, "NONE: the water does not do, by one", """
             farms(2)  set(0, 10)  narrow(1, -1) = 10  set(0, 9)  narrow(1, -1) = NONE  narrow(1, 0) = NONE
             set(0, 10)  farm(1, 5, 1)  narrow(1, -1) = NONE  set(0, 11)  narrow(1, -1) = 10""");
+        edge(18, "plain hours: NORTH is nothing to it", "farms(1)  farm(0, 3, 1)  narrow(5, 0) = 1  narrow(1, -1) = 5");
         edge(18, "HEIGHTS as they are", """
             farms(1)  farm(0, 0, 15)  narrow(1, 0) = 5  farm(0, 0, 16)  narrow(1, 0) = NONE  narrow(2, 0) = 3
             narrow(24, 0) = 1  farm(0, 0, 20)  narrow(24, 0) = NONE""");
@@ -95,6 +97,8 @@ final class EdgesOfMuch {
             farms(2)  narrow(5, -1) = 2  narrow(5, 0) = 1  narrow(5, 1) = 1  narrow(5, 2|-2|min|max) = UNKNOWN""");
         edge(18, "m is 1 to 24", """
             narrow(0|-1|25|min|max, -1|0) = OUTSIDE  farms(1)  farm(0, 2, 1)  narrow(1|24, 0) = 1""");
+        edge(18, "as many FARMS as there are now, whatever was asked before", """
+            takesIf(8, 8)  farms(2)  narrow(5, 2) = UNKNOWN  takesIf(1, 1)  farms(9)  narrow(5, 8) = 1""");
         edge(18, "UNKNOWN ahead of OUTSIDE", "narrow(0|25, 9|-2) = UNKNOWN  narrow(0|25, 8) = OUTSIDE");
         edge(18, "refused also if there is none", """
             set(0, 0)  narrow(1, 9) = UNKNOWN  narrow(0, 0) = OUTSIDE  narrow(1, 0) = NONE""");
@@ -116,6 +120,7 @@ final class EdgesOfMuch {
         edge(19, "in m hours: just so many pails, one more", """
             farms(1)  farm(0, 1, 9)  farm(0, 2, 6)  highest(0, 2) = 17  highest(0, 3) = 18  farm(0, 2, 7)
             highest(0, 2) = 16  highest(0, 1) = 13""");
+        edge(19, "plain hours: NORTH is nothing to it", "farms(1)  farm(0, 3, 1)  highest(0, 5) = 19");
         edge(19, "whatever the HEIGHT is now", """
             farms(1)  farm(0, 0, 50)  highest(0, 5) = 19  farm(0, 0, 0)  highest(0, 5) = 19  told(10) = 0""");
         edge(19, "all have what they WANT, not this one alone", """
@@ -159,6 +164,8 @@ final class EdgesOfMuch {
         edge(20, "a FARM far behind is not to have less either", """
             farms(8)  set(0, 9)  bored(0, 1, 0) = 0  bored(0, 2, 0) = 8  bored(0, 2, 1) = 1  set(0, 8)
             bored(0, 1, 0) = NONE  farm(7, 4, 1)  bored(0, 1, 0) = 0  bored(0, 2, 0) = 7  bored(0, 2, 1) = 1""");
+        edge(20, "a plain hour: NORTH farms are not to have less", """
+            farms(1)  farm(0, 3, 1)  farm(0, 1, 9)  set(0, 10)  bored(0, 1, 0) = 0  bored(0, 2, 0) = 1""");
         edge(20, "FARMS that take nothing now have no less", """
             farms(3)  set(0, 5)  farm(0|1|2, 0, 5)  bored(0, 5, 0) = 0  bored(0, 9, 1) = 5  bored(5, 9, 0) = NONE""");
     }
@@ -184,6 +191,7 @@ final class EdgesOfMuch {
         edge(21, "all PLUGGED: 9; one that is not", """
             farms(2)  farm(0|1, 4, 1)  fair() = 9  set(0, 0)  fair() = 9  farm(1, 4, 0)  fair() = 0  set(0, 4)
             fair() = 4  farm(0, 4, 0)  fair() = 2""");
+        edge(21, "a plain hour: NORTH is nothing to it", "farms(1)  farm(0, 3, 1)  fair() = 9  set(0, 5)  fair() = 5");
         edge(21, "WIDTHS as they are now are nothing to it", """
             farms(2)  farm(0, 1, 0)  farm(1, 1, 9)  fair() = 9  set(0, 7)  fair() = 3  told(11) = 0  told(21) = 9""");
         edge(21, "HEIGHT and LEAKS", """
@@ -208,6 +216,7 @@ final class EdgesOfMuch {
         edge(22, "NONE: those that take nothing now can not take less", """
             farms(2)  farm(0, 4, 1)  farm(1, 1, 0)  dry(99) = NONE  farm(1, 1, 1)  dry(99) = 1  farm(1, 0, 20)
             dry(99) = NONE""");
+        edge(22, "a plain hour: NORTH is nothing to it", "farms(1)  farm(0, 3, 1)  dry(0) = NONE  dry(99) = 0");
         edge(22, "OUTSIDE also if there is none", "set(0, 0)  dry(100|-1) = OUTSIDE  dry(99|0) = NONE");
     }
 

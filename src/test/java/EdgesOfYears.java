@@ -81,6 +81,8 @@ final class EdgesOfYears {
         edge(30, "what goes to the DITCH, in the year alone", """
             farms(1)  farm(0, 1, 0)  set(0, 99)  set(1, 50)  pad "."  done()  told(5) = 99  year(9999, 99, 1) = 10791
             year(0, 1, 1) = 99  set(0, 0)  year(873, 1, 1) = 50  year(0, 1, 1) = 0""");
+        edge(30, "as many FARMS as there are now, whatever was asked before", """
+            takesIf(8, 8)  farms(2)  year(0, 1, 0) = 2  takesIf(1, 1)  farms(9)  year(0, 1, 0) = 9""");
         edge(30, "COWS drink all at noon, 0 at least", """
             farms(1)  farm(0, 1, 9)  set(2, 50)  set(0, 50)  year(2622, 1, 0|1) = 0  year(2622, 1, 2) = 1  set(0, 49)
             year(2622, 1, 0|1) = 0  set(0, 51)  year(2622, 1, 0) = 1  year(2622, 1, 1) = 0  year(2622, 1, 2) = 0""");
@@ -135,6 +137,9 @@ final class EdgesOfYears {
             told(1) = 2  told(2) = 99  told(3) = 50  told(4) = 49  told(5) = 89  told(6) = 8
             told(20) = 50  told(21) = 9  told(22) = 99  told(23) = 1  told(24) = 1  told(25) = 9  told(26) = 999
             told(16) = 1  told(30) = OUTSIDE  seen(0, 1) = FULL  leak(-1) = 9  told(0) = 2  fault() = 1""");
+        edge(32, "SIGHTS: of which FARM, how many it took", """
+            farms(2)  set(0, 1)  seen(1, 0)  image(0)  forget()  seen(1, 9)  leak(-1) = 0  restore(0) = 1  leak(-1) = 18
+            forget()  seen(0, 0)  leak(-1) = 9  restore(0) = 1  leak(-1) = 18""");
         edge(32, "the PAD stays as it is, full or empty", """
             pad "A."  image(0)  pad "............................................................"  restore(0) = 1
             told(0) = 60  judge(2) = 60  wipe()  restore(0) = 1  told(0) = 0""");
