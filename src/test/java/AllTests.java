@@ -13,6 +13,7 @@ public final class AllTests {
         EdgesOfMuch.run();
         EdgesOfHeard.run();
         EdgesOfYears.run();
+        EdgesOfRefusals.run();
         RefusalTests.run();
         RandomTests.run();
         RoomTests.run();

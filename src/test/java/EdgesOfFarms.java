@@ -91,7 +91,8 @@ final class EdgesOfFarms {
         edge(3, "PAILS is 0 to 999", """
             farm(0, 6, -1|1000|min|max) = OUTSIDE  farm(0, 6, 999) = 0  farm(0, 6, 1000) = OUTSIDE  farm(0, 6, 0) = 999
             told(16) = 0""");
-        edge(3, "what is 0 to 6", "farm(0, -1|7|8|10|min|max, 0) = OUTSIDE  farm(0, 0|1|2|3|4|5, 1)  farm(0, 6, 1) = 0");
+        edge(3, "what is 0 to 6", """
+            farm(0, -1|7|8|10|min|max, 0) = OUTSIDE  farm(0, 0|1|2|3|4|5, 1)  farm(0, 6, 1) = 0""");
         edge(3, "UNKNOWN: there is no such farm", """
             farm(9|10|-1|-2|min|max, 0, 0) = UNKNOWN  farm(8, 0, 3) = 0  farms(4)  farm(4|8, 0, 0) = UNKNOWN
             farm(3, 0, 3) = 0  farm(-1, 0, 0) = UNKNOWN  farms(1)  farm(1, 0, 0) = UNKNOWN  farm(0, 0, 0) = 0""");
@@ -163,7 +164,8 @@ final class EdgesOfFarms {
         edge(7, "small letters are no capitals", """
             pad "a"  fault() = 0  pad "Aa"  fault() = 1  pad "N"  fault() = 0  pad "W"  fault() = 0
             pad "AW"  fault() = 1  pad "n"  fault() = NONE""");
-        edge(7, "a part that can not be is no fault", "pad \"A<\"  fault() = NONE  judge(0) = 0  pad \"A<!\"  fault() = 2");
+        edge(7, "a part that can not be is no fault", """
+            pad "A<"  fault() = NONE  judge(0) = 0  pad "A<!"  fault() = 2""");
         edge(7, "as the farms are that there are now, in an image too", """
             image(0)  farms(1)  pad "B"  fault() = 0  restore(0)  fault() = NONE""");
     }

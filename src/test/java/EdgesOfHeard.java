@@ -140,7 +140,8 @@ final class EdgesOfHeard {
         edge(28, "FARMS beside the set keep theirs", """
             farms(4)  set(0, 12)  farm(0, 1, 9)  rests(2, 0) = 3  rests(6, 0) = 30  rests(1, 0) = 4  rests(3, 0) = 44
             farm(0, 1, 0)  rests(2, 0) = 4  farm(1, 1, 9)  rests(4, 0) = 3  told(11) = 0  told(21) = 9""");
-        edge(28, "LEAKS of logs in the set", "farms(2)  set(0, 8)  farm(1, 5, 3)  rests(3, 0) = 41  farm(1, 5, 4)  rests(3, 0) = 40");
+        edge(28, "LEAKS of logs in the set", """
+            farms(2)  set(0, 8)  farm(1, 5, 3)  rests(3, 0) = 41  farm(1, 5, 4)  rests(3, 0) = 40""");
     }
 
     private static void restsRefuses() {

@@ -84,7 +84,8 @@ final class EdgesOfHours {
             farms(1)  farm(0, 1, 9)  set(0, 9)  pad "."  ditch() = 0  set(0, 10)  ditch() = 1  farm(0, 4, 1)
             ditch() = 10  set(0, 0)  ditch() = 0""");
         edge(10, "parts that are no hours leave nothing", "pad \"ABA>CwAB\"  ditch() = 0");
-        edge(10, "STATE; NO ahead of it", "pad \"A<\"  ditch() = STATE  pad \"A<!\"  ditch() = NO  pad \"!\"  ditch() = NO");
+        edge(10, "STATE; NO ahead of it", """
+            pad "A<"  ditch() = STATE  pad "A<!"  ditch() = NO  pad "!"  ditch() = NO""");
     }
 
     private static void done() {
@@ -131,7 +132,8 @@ final class EdgesOfHours {
         edge(12, "UNKNOWN ahead of NO and STATE, NO ahead of STATE", """
             first(-1|9|min|max) = UNKNOWN  first(8) = NONE  pad "A<"  first(9) = UNKNOWN  first(0) = STATE
             pad "A<!"  first(9) = UNKNOWN  first(0) = NO  pad "!"  first(0) = NO  farms(1)  first(1) = UNKNOWN""");
-        edge(12, "refused also if it has them now", "farm(0, 2, 0)  pad \"A<\"  first(0) = STATE  pad \"!\"  first(0) = NO");
+        edge(12, "refused also if it has them now", """
+            farm(0, 2, 0)  pad "A<"  first(0) = STATE  pad "!"  first(0) = NO""");
     }
 
     private static void takes() {
@@ -163,7 +165,8 @@ final class EdgesOfHours {
             farms(2)  farm(0, 1, 9)  takesIf(0, 1) = 9  farm(1, 4, 1)  takesIf(0, 1) = 9""");
         edge(14, "a farm and itself", """
             farms(1)  takesIf(0, 0) = 0  farm(0, 4, 1)  takesIf(0, 0) = 1  told(14) = 1""");
-        edge(14, "a plain hour: NORTH is nothing to it", "farms(2)  farm(0|1, 3, 1)  takesIf(1, 0) = 1  takesIf(0, 1) = 1");
+        edge(14, "a plain hour: NORTH is nothing to it", """
+            farms(2)  farm(0|1, 3, 1)  takesIf(1, 0) = 1  takesIf(0, 1) = 1""");
         edge(14, "one PLUGGED stays so, if another were", "farms(2)  farm(1, 4, 1)  takesIf(1, 0) = 0");
         edge(14, "the log of one that were PLUGGED LEAKS still", """
             farms(2)  set(0, 9)  farm(0, 5, 9)  farm(1, 1, 9)  takesIf(1, 0) = 0  farm(0, 5, 8)  takesIf(1, 0) = 1

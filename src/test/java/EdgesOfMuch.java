@@ -171,13 +171,17 @@ final class EdgesOfMuch {
     }
 
     private static void boredRefuses() {
-        edge(20, "HEIGHT is 0 to 50", "farms(1)  bored(-1|51|min|max, 1, 0) = OUTSIDE  set(0, 99)  bored(0|50, 1, 0) = 0");
-        edge(20, "WIDTH is 0 to 9", "farms(1)  bored(0, -1|10|min|max, 1) = OUTSIDE  bored(0, 0, 1) = NONE  bored(0, 9, 1) = 9");
-        edge(20, "what is 0 or 1", "farms(1)  bored(0, 1, -1|2|min|max) = OUTSIDE  bored(0, 1, 0) = 0  bored(0, 1, 1) = 1");
+        edge(20, "HEIGHT is 0 to 50", """
+            farms(1)  bored(-1|51|min|max, 1, 0) = OUTSIDE  set(0, 99)  bored(0|50, 1, 0) = 0""");
+        edge(20, "WIDTH is 0 to 9", """
+            farms(1)  bored(0, -1|10|min|max, 1) = OUTSIDE  bored(0, 0, 1) = NONE  bored(0, 9, 1) = 9""");
+        edge(20, "what is 0 or 1", """
+            farms(1)  bored(0, 1, -1|2|min|max) = OUTSIDE  bored(0, 1, 0) = 0  bored(0, 1, 1) = 1""");
         edge(20, "STATE: there are nine", """
             bored(0, 1, 0|1) = STATE  bored(50, 0, 0) = STATE  farms(8)  bored(0, 1, 0) = 0  bored(0, 9, 0) = 0
             farms(1)  bored(0, 9, 0) = 0  farms(9)  bored(0, 1, 0) = STATE""");
-        edge(20, "OUTSIDE ahead of STATE", "bored(-1|51, 1, 0) = OUTSIDE  bored(0, 10|-1, 0) = OUTSIDE  bored(0, 1, 2) = OUTSIDE");
+        edge(20, "OUTSIDE ahead of STATE", """
+            bored(-1|51, 1, 0) = OUTSIDE  bored(0, 10|-1, 0) = OUTSIDE  bored(0, 1, 2) = OUTSIDE""");
     }
 
     private static void fair() {

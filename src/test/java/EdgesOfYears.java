@@ -40,7 +40,8 @@ final class EdgesOfYears {
             farms(2)  set(0, 1)  frost(0, 12, 9, 12, 0|1) = 1  frost(1, 1, 9, 12, 0) = 0  farm(0, 3, 1)
             frost(1, 1, 1, 1, 0) = 1  frost(1, 1, 1, 1, 1) = 10  frost(1, 1, 0, 12, 0) = 0  frost(1, 12, 10, 12, 0) = 1
             """);
-        edge(29, "no RAIN, no COWS", "farms(1)  set(1, 50)  set(2, 50)  set(0, 1)  farm(0, 1, 9)  frost(0, 12, 5, 12, 0|1) = 1");
+        edge(29, "no RAIN, no COWS", """
+            farms(1)  set(1, 50)  set(2, 50)  set(0, 1)  farm(0, 1, 9)  frost(0, 12, 5, 12, 0|1) = 1""");
     }
 
     private static void frostsTerms() {
@@ -74,7 +75,8 @@ final class EdgesOfYears {
             set(0, 9)  year(0, 1, 2) = 0  set(0, 8)  year(0, 1, 2) = 1  set(0, 99)  farm(0, 4, 1)  year(0, 1, 2) = 1
             year(0, 99, 2) = 99  farm(0, 4, 0)  farm(8, 1, 0)  year(0, 1, 2) = 1  farm(8, 1, 1)  farm(4, 0, 50)
             year(0, 1, 2) = 0  set(0, 54)  year(0, 1, 2) = 1  set(0, 55)  year(0, 1, 2) = 0""");
-        edge(30, "an hour in which several took nothing is one", "farm(0|1|2, 4, 1)  year(0, 1, 2) = 1  year(0, 2, 2) = 2");
+        edge(30, "an hour in which several took nothing is one", """
+            farm(0|1|2, 4, 1)  year(0, 1, 2) = 1  year(0, 2, 2) = 2""");
         edge(30, "PAILS that all take together", """
             set(0, 99)  farm(0|1|2|3|4|5|6|7|8, 1, 9)  year(0, 1, 0) = 81  year(0, 99, 0) = 8019  year(0, 99, 2) = 0
             farm(0|1|2|3|4|5|6|7|8, 4, 1)  year(0, 99, 0) = 0""");
@@ -108,7 +110,8 @@ final class EdgesOfYears {
     private static void yearRefuses() {
         edge(30, "the seed is 0 to 9999", "year(-1|10000|65537|min|max, 1, 0) = OUTSIDE  year(0|9999, 1, 0) = 9");
         edge(30, "m is 1 to 99", "year(0, 0|-1|100|min|max, 0) = OUTSIDE  year(0, 1, 2) = 0  year(0, 99, 2) = 0");
-        edge(30, "what is 0 to 2", "year(0, 1, -1|3|min|max) = OUTSIDE  year(0, 1, 0) = 9  year(0, 1, 1) = 11  year(0, 1, 2) = 0");
+        edge(30, "what is 0 to 2", """
+            year(0, 1, -1|3|min|max) = OUTSIDE  year(0, 1, 0) = 9  year(0, 1, 1) = 11  year(0, 1, 2) = 0""");
     }
 
     private static void image() {

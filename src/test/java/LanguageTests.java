@@ -105,7 +105,8 @@ final class LanguageTests extends TreePathScanner<Void, Void> {
         rule(tree, "11: at most " + MOST_PARAMETERS + " parameters", tree.getParameters().size() <= MOST_PARAMETERS);
         boolean isFace = classes == 1 && tree.getModifiers().getFlags().contains(Modifier.PUBLIC);
         String name = tree.getName().toString();
-        rule(tree, "1: no other method of a public one's name", isFace || name.equals("<init>") || !face.contains(name));
+        rule(tree, "1: no other method of a public one's name",
+            isFace || name.equals("<init>") || !face.contains(name));
         rule(tree, "1: public or private", classes > 1 || isFace
             || tree.getModifiers().getFlags().contains(Modifier.PRIVATE));
         return super.visitMethod(tree, none);
