@@ -623,13 +623,18 @@ public final class SpringFarms {
         return stride;
     }
 
+    /** The width that the chooser of a stride has in a row. */
+    private static int choice(int row, int stride) {
+        return stride < 1 ? 0 : row / stride % CHOICES;
+    }
+
     /** Fills in what each chooser gets by each row of widths: how many rows there are. */
     private int weighRows(int choosing) {
         trial.copy(now);
         int rows = Math.min(MOST_ROWS, CHOICES * stride(0, choosing));
         for (int row = 0; row < rows; row++) {
             for (int k = 0; k < choosing; k++) {
-                trial.put(choosers[k], WIDTH, row / stride(k, choosing) % CHOICES);
+                trial.put(choosers[k], WIDTH, choice(row, stride(k, choosing)));
             }
             other.flow(trial, PLAIN);
             for (int k = 0; k < choosing; k++) {
@@ -644,7 +649,7 @@ public final class SpringFarms {
     private boolean isAtRest(int row, int choosing) {
         for (int k = 0; k < choosing; k++) {
             int stride = stride(k, choosing);
-            int base = row - row / stride % CHOICES * stride;
+            int base = row - choice(row, stride) * stride;
             for (int width = 0; width < CHOICES; width++) {
                 int moved = base + width * stride;
                 if (gains[moved * MOST_CHOOSERS + k] > gains[row * MOST_CHOOSERS + k]) {

@@ -1,4 +1,4 @@
-/** Runs every test of the project; the argument is the path of SpringFarms.java. */
+/** Runs every test of the project; the arguments are the paths of SpringFarms.java and of README.md. */
 public final class AllTests {
     private static final int PROMISES = 33;
 
@@ -18,6 +18,7 @@ public final class AllTests {
         RandomTests.run();
         RoomTests.run();
         LanguageTests.run(args.length > 0 ? args[0] : "src/main/java/SpringFarms.java");
+        ReadmeTests.run(args.length > 1 ? args[1] : "README.md");
         Check.test("each promise has tests of its own", AllTests::eachPromise);
         if (!Check.close()) {
             System.exit(1);

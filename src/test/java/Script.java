@@ -99,7 +99,7 @@ final class Script {
         }
     }
 
-    private static long number(String text) {
+    static long number(String text) {
         long sum = 0;
         for (String term : text.trim().split("\\+")) {
             sum += NAMES.containsKey(term) ? NAMES.get(term) : Long.parseLong(term);
@@ -107,7 +107,7 @@ final class Script {
         return sum;
     }
 
-    private static long call(SpringFarms on, String call) throws Exception {
+    static long call(SpringFarms on, String call) throws Exception {
         int open = call.indexOf('(');
         String inside = call.substring(open + 1, call.length() - 1);
         String[] texts = inside.isEmpty() ? new String[0] : inside.split(",");
